@@ -212,6 +212,7 @@ public final class PromiseTest {
         fault(x, "race", 4);
         fault(x, "rac", 0);
         fault(x, "races 20;", 0);
+        fault(x, "racez 20;", 0);
         fault(x, "one 0 1 0;", 0);
         fault(x, ";", 0);
         fault(x, " 20;", 1);
@@ -356,6 +357,15 @@ public final class PromiseTest {
         due("10: speed", 0, x.undo());
         due("10: speed", 4, x.of(1, 3));
         due("10: none left", NO, x.undo());
+        EggSpoons dropped = with(60, 0, 9, 0);
+        dropped.speed(0, 9);
+        dropped.ticks(1);
+        dropped.ticks(3);
+        facts("10: dropped again", dropped, 0, 0, 9, 0, 9, 0, 2, 2, NONE);
+        due("10: dropped once", 1, dropped.undo());
+        facts("10: dropped once", dropped, 0, 0, 9, 0, 9, 0, 1, 2, NONE);
+        due("10: not dropped", 0, dropped.undo());
+        facts("10: not dropped", dropped, 0, 0, 9, 0, 9, 0, 0, 0, NONE);
         for (int k = 0; k < 10; k++) {
             x.ticks(2);
         }
@@ -632,6 +642,10 @@ public final class PromiseTest {
         due("19: what", BAD, x.close(0, 1, -1));
         due("19: nobody", BAD, x.close(0, 3, 0));
         due("19: nobody", BAD, x.close(3, 0, 0));
+        EggSpoons sly = with(60, 5, 1, 0, 0, 2, 0);
+        sly.start(1, 1);
+        due("19: odd ticks first", 1, sly.close(0, 1, 0));
+        due("19: odd ticks first", 0, sly.close(0, 1, 1));
         EggSpoons late = with(60, 0, 1, 0, 0, 4, 0);
         late.start(1, 4);
         due("19: at 60", 60, late.close(0, 1, 0));
@@ -896,6 +910,14 @@ public final class PromiseTest {
         waiting.speed(0, 4);
         stumbled(waiting, new int[] {0, 1, 2, 0}, 0, 1);
         stumbled(waiting, new int[] {0, 4, 3, 4}, 3, 5);
+        EggSpoons kinds = with(60, 3, 3, 0, 0, 4, 2);
+        stumbled(kinds, new int[] {0, 9, 4, 1}, 729, 1000);
+        stumbled(kinds, new int[] {0, 10, 6, 0}, 0, 1);
+        stumbled(kinds, new int[] {1, 4, 3, 0}, 0, 1);
+        stumbled(kinds, new int[] {1, 4, 4, 3}, 7, 10);
+        kinds.ticks(1);
+        stumbled(kinds, new int[] {0, 9, 2, 1}, 81, 100);
+        stumbled(kinds, new int[] {0, 9, 3, 1}, 81, 100);
         EggSpoons home = with(10, 0, 4, 0);
         home.ticks(3);
         stumbled(home, new int[] {0, 12, 6, 9}, 1, 1);
@@ -915,6 +937,16 @@ public final class PromiseTest {
         due("32: nothing is changed", before, x.digest());
         x.ticks(3);
         due("32: who is home counts", 2, x.races(0, 0));
+        EggSpoons all = with(30, 0, 9, 0, 1, 8, 1, 2, 7, 2, 3, 6, 3, 4, 5, 4, 5, 4, 5);
+        int[] ns = {0, 5, 8, 10, 12, 15, 20, 30, 60};
+        int[] seeds = {0, 1, 7, 4242, 999999};
+        int[][] homes = {{0, 0, 0, 0, 0, 1, 2, 4, 5}, {0, 0, 0, 0, 0, 1, 3, 5, 6}, {0, 0, 1, 1, 1, 2, 4, 4, 6},
+            {0, 0, 1, 1, 1, 1, 2, 3, 5}, {0, 0, 1, 1, 1, 1, 2, 2, 5}};
+        for (int k = 0; k < seeds.length; k++) {
+            for (int j = 0; j < ns.length; j++) {
+                due("32: races(" + seeds[k] + ", " + ns[j] + ")", homes[k][j], all.races(seeds[k], ns[j]));
+            }
+        }
         EggSpoons nobody = new EggSpoons();
         due("32: nobody", 0, nobody.races(5, 60));
     }
