@@ -947,6 +947,10 @@ public final class PromiseTest {
                 due("32: races(" + seeds[k] + ", " + ns[j] + ")", homes[k][j], all.races(seeds[k], ns[j]));
             }
         }
+        // Seeds by which an X falls just behind a whole number of 1048576.
+        due("32: races(202, 20)", 4, all.races(202, 20));
+        due("32: races(711, 20)", 3, all.races(711, 20));
+        due("32: races(1260, 20)", 2, all.races(1260, 20));
         EggSpoons nobody = new EggSpoons();
         due("32: nobody", 0, nobody.races(5, 60));
     }
