@@ -1,8 +1,9 @@
+import java.util.Arrays;
 import java.util.Random;
 
-/** Long runs of calls by fixed seeds, each call's answer held against the one of Naive. */
+/** Runs of at most 512 calls by fixed seeds, each call's answer held against the one of Naive. */
 public final class ModelTest {
-    private static final int RUNS = 400;
+    private static final int RUNS = 800;
     private static final String[] NAMES = {"race", "one", "type", "clear", "read", "ticks", "speed", "start", "undo", "of",
         "where", "home", "first", "order", "best", "turn", "beats", "close", "seen", "strong", "tell", "note", "mark",
         "forget", "is", "look", "kinds", "ask", "pair", "stumble", "races", "part", "image", "from", "status", "count",
@@ -42,7 +43,7 @@ public final class ModelTest {
             both("ticks", 60);
         }
         while (calls < 500) {
-            if (random.nextInt(30) == 0) {
+            if (random.nextInt(60) == 0 && calls < 300) {
                 tellText();
             } else {
                 step();
@@ -170,7 +171,6 @@ public final class ModelTest {
         }
         for (int k = 0; k < text.length(); k++) {
             both("type", text.charAt(k));
-            calls--;
         }
         both("read");
         both("digest");
@@ -196,49 +196,6 @@ public final class ModelTest {
 
     private void both(String name, int... v) {
         calls++;
-        check.due("run " + run + " call " + calls + " " + name + java.util.Arrays.toString(v), naive.call(name, v), realCall(name, v));
-    }
-
-    private long realCall(String name, int... v) {
-        return switch (name) {
-            case "race" -> real.race(v[0]);
-            case "one" -> real.one(v[0], v[1], v[2]);
-            case "type" -> real.type(v[0]);
-            case "clear" -> real.clear();
-            case "read" -> real.read();
-            case "ticks" -> real.ticks(v[0]);
-            case "speed" -> real.speed(v[0], v[1]);
-            case "start" -> real.start(v[0], v[1]);
-            case "undo" -> real.undo();
-            case "of" -> real.of(v[0], v[1]);
-            case "where" -> real.where(v[0], v[1]);
-            case "home" -> real.home(v[0]);
-            case "first" -> real.first();
-            case "order" -> real.order(v[0]);
-            case "best" -> real.best(v[0], v[1]);
-            case "turn" -> real.turn(v[0], v[1], v[2]);
-            case "beats" -> real.beats(v[0], v[1]);
-            case "close" -> real.close(v[0], v[1], v[2]);
-            case "seen" -> real.seen(v[0], v[1], v[2], v[3]);
-            case "strong" -> real.strong(v[0], v[1]);
-            case "tell" -> real.tell(v[0]);
-            case "note" -> real.note(v[0], v[1], v[2], v[3], v[4]);
-            case "mark" -> real.mark(v[0], v[1], v[2]);
-            case "forget" -> real.forget(v[0]);
-            case "is" -> real.is(v[0]);
-            case "look" -> real.look(v[0]);
-            case "kinds" -> real.kinds(v[0]);
-            case "ask" -> real.ask(v[0]);
-            case "pair" -> real.pair(v[0], v[1], v[2]);
-            case "stumble" -> real.stumble(v[0], v[1], v[2], v[3]);
-            case "races" -> real.races(v[0], v[1]);
-            case "part" -> real.part(v[0]);
-            case "image" -> real.image(v[0]);
-            case "from" -> real.from(v[0]);
-            case "status" -> real.status(v[0]);
-            case "count" -> real.count(v[0]);
-            case "digest" -> real.digest();
-            default -> throw new IllegalArgumentException(name);
-        };
+        check.due("run " + run + " call " + calls + " " + name + Arrays.toString(v), naive.call(name, v), Calls.on(real, name, v));
     }
 }

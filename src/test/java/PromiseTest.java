@@ -51,22 +51,6 @@ public final class PromiseTest {
         check.finish();
     }
 
-    private static EggSpoons with(int length, int... kindLegsEgg) {
-        EggSpoons x = new EggSpoons();
-        x.race(length);
-        for (int k = 0; k + 2 < kindLegsEgg.length; k += 3) {
-            x.one(kindLegsEgg[k], kindLegsEgg[k + 1], kindLegsEgg[k + 2]);
-        }
-        return x;
-    }
-
-    private static void put(EggSpoons x, String text) {
-        x.clear();
-        for (int k = 0; k < text.length(); k++) {
-            x.type(text.charAt(k));
-        }
-    }
-
     /** Each list of answers is asked of the same call with 0, 1, 2 and so on. */
     private static void facts(String told, EggSpoons x, int i, int... want) {
         for (int what = 0; what < want.length; what++) {
@@ -92,8 +76,8 @@ public final class PromiseTest {
     }
 
     private static void race() {
-        EggSpoons x = with(30, 0, 5, 0, 1, 6, 1);
-        put(x, "go");
+        EggSpoons x = Given.runners(30, 0, 5, 0, 1, 6, 1);
+        Given.text(x, "go");
         x.stumble(0, 1, 1, 5);
         x.seen(0, 1, 1, 1);
         x.note(0, 1, 1, 1, 1);
@@ -130,12 +114,12 @@ public final class PromiseTest {
         facts("3:", x, 2, 2, 3, 3, 4, 0, 0, 0, NONE);
         facts("3:", x, 5, 5, 9, 0, 4, 0, 0, 0, NONE);
         due("3: FULL", 1, x.status(2));
-        EggSpoons late = with(20, 0, 4, 0);
+        EggSpoons late = Given.runners(20, 0, 4, 0);
         late.ticks(5);
         due("3: comes late", 1, late.one(0, 4, 0));
         due("3: at the tape", 0, late.of(1, 4));
         due("3: none may be undone", 0, late.count(9));
-        EggSpoons again = with(20, 0, 9, 0);
+        EggSpoons again = Given.runners(20, 0, 9, 0);
         again.speed(0, 9);
         again.ticks(1);
         again.race(20);
@@ -160,7 +144,7 @@ public final class PromiseTest {
     }
 
     private static void readWhole() {
-        EggSpoons x = with(60, 1, 1, 1);
+        EggSpoons x = Given.runners(60, 1, 1, 1);
         x.seen(0, 1, 1, 1);
         x.note(0, 1, 1, 1, 1);
         x.mark(0, 1, 1);
@@ -168,7 +152,7 @@ public final class PromiseTest {
         x.image(0);
         x.ticks(1);
         String text = "  race 20 ;one 0 04 0;one 3 9 1;start 1 19;speed 0 2;speed 0 2;go 2;start 0 0;go01;speed 1 9; ";
-        put(x, text);
+        Given.text(x, text);
         due("6: read", 10, x.read());
         counts("6: read", x, 2, 1, 20, 3, 25, 0, 0, 0, 0, 0, text.length());
         facts("6:", x, 0, 0, 4, 0, 2, 2, 0, 0, NONE);
@@ -178,20 +162,23 @@ public final class PromiseTest {
         due("6: image stays", 1, x.from(0));
         due("6: image", 60, x.count(2));
         due("6: read again", 10, x.read());
-        put(x, "race10;");
+        Given.text(x, "race10;");
         due("6: no blank is needed", 1, x.read());
         counts("6: race alone", x, 0, 0, 10, 0, 0, 0, 0, 0, 0, 0, 7);
-        put(x, "race 31;one 0 9 0;start 0 30;");
+        Given.text(x, "race 31;one 0 9 0;start 0 30;");
         due("6: start 30", 3, x.read());
         due("6: start 30", 30, x.of(0, 4));
-        put(x, "race 10;one 0 9 0;one 0 9 0;one 0 9 0;one 0 9 0;one 0 9 0;one 5 1 5;go 99;go 99;");
+        Given.text(x, "race 10;one 0 9 0;one 0 9 0;one 0 9 0;one 0 9 0;one 0 9 0;one 5 1 5;go 99;go 99;");
         due("6: six, many ticks", 9, x.read());
         due("6: tick", 198, x.count(3));
         due("6: home", 6, x.count(1));
     }
 
-    private static void fault(EggSpoons x, String text, int place) {
-        put(x, text);
+    private static void fault(String text, int place) {
+        EggSpoons x = Given.runners(33, 2, 5, 3);
+        x.ticks(2);
+        x.seen(0, 1, 2, 3);
+        Given.text(x, text);
         long before = x.digest();
         int bad = x.status(0), no = x.status(1), full = x.status(2);
         due("6: \"" + text + "\"", -10 - place, x.read());
@@ -202,55 +189,52 @@ public final class PromiseTest {
     }
 
     private static void readFaults() {
-        EggSpoons x = with(33, 2, 5, 3);
-        x.ticks(2);
-        x.seen(0, 1, 2, 3);
-        fault(x, "", 0);
-        fault(x, "   ", 3);
-        fault(x, "race 20", 7);
-        fault(x, "race 20  ", 9);
-        fault(x, "race", 4);
-        fault(x, "rac", 0);
-        fault(x, "races 20;", 0);
-        fault(x, "racez 20;", 0);
-        fault(x, "one 0 1 0;", 0);
-        fault(x, ";", 0);
-        fault(x, " 20;", 1);
-        fault(x, "Race 20;", 0);
-        fault(x, "race 9;", 5);
-        fault(x, "race 61;", 5);
-        fault(x, "race 60;race 60;", 8);
-        fault(x, "race 020;", 5);
-        fault(x, "race 20 20;", 8);
-        fault(x, "race 20;;", 8);
-        fault(x, "race 20; go 1 ;x", 15);
-        fault(x, "race 20;go;", 10);
-        fault(x, "race 20;go 0;", 11);
-        fault(x, "race 20;go 100;", 11);
-        fault(x, "race 20;go go;", 11);
-        fault(x, "race 20;go 1", 12);
-        fault(x, "race 20;go 1one", 12);
-        fault(x, "race 20\t;", 7);
-        fault(x, "race 20;one 6 1 0;", 12);
-        fault(x, "race 20;one 0 0 0;", 14);
-        fault(x, "race 20;one 0 10 0;", 14);
-        fault(x, "race 20;one 0 1 6;", 16);
-        fault(x, "race 20;one 0 1;", 15);
-        fault(x, "race 20;one 0 1 0 0;", 18);
-        fault(x, "race 20;speed 0 4;", 14);
-        fault(x, "race 20;one 0 1 0;speed 1 4;", 24);
-        fault(x, "race 20;one 0 1 0;speed 0 10;", 26);
-        fault(x, "race 20;one 0 1 0;start 1 1;", 24);
-        fault(x, "race 20;one 0 1 0;start 0 20;", 26);
-        fault(x, "race 50;one 0 1 0;start 0 31;", 26);
-        fault(x, "race 20;one 0 4 0;go 5;start 0 3;", 29);
-        fault(x, "race 20;one 0 1 0;one 0 1 0;one 0 1 0;one 0 1 0;one 0 1 0;one 0 1 0;one", 68);
-        fault(x, "race 20;stop 1;", 8);
-        fault(x, "race 20;go 1;" + (char) 0, 13);
+        fault("", 0);
+        fault("   ", 3);
+        fault("race 20", 7);
+        fault("race 20  ", 9);
+        fault("race", 4);
+        fault("rac", 0);
+        fault("races 20;", 0);
+        fault("racez 20;", 0);
+        fault("one 0 1 0;", 0);
+        fault(";", 0);
+        fault(" 20;", 1);
+        fault("Race 20;", 0);
+        fault("race 9;", 5);
+        fault("race 61;", 5);
+        fault("race 60;race 60;", 8);
+        fault("race 020;", 5);
+        fault("race 20 20;", 8);
+        fault("race 20;;", 8);
+        fault("race 20; go 1 ;x", 15);
+        fault("race 20;go;", 10);
+        fault("race 20;go 0;", 11);
+        fault("race 20;go 100;", 11);
+        fault("race 20;go go;", 11);
+        fault("race 20;go 1", 12);
+        fault("race 20;go 1one", 12);
+        fault("race 20\t;", 7);
+        fault("race 20;one 6 1 0;", 12);
+        fault("race 20;one 0 0 0;", 14);
+        fault("race 20;one 0 10 0;", 14);
+        fault("race 20;one 0 1 6;", 16);
+        fault("race 20;one 0 1;", 15);
+        fault("race 20;one 0 1 0 0;", 18);
+        fault("race 20;speed 0 4;", 14);
+        fault("race 20;one 0 1 0;speed 1 4;", 24);
+        fault("race 20;one 0 1 0;speed 0 10;", 26);
+        fault("race 20;one 0 1 0;start 1 1;", 24);
+        fault("race 20;one 0 1 0;start 0 20;", 26);
+        fault("race 50;one 0 1 0;start 0 31;", 26);
+        fault("race 20;one 0 4 0;go 5;start 0 3;", 29);
+        fault("race 20;one 0 1 0;one 0 1 0;one 0 1 0;one 0 1 0;one 0 1 0;one 0 1 0;one", 68);
+        fault("race 20;stop 1;", 8);
+        fault("race 20;go 1;" + (char) 0, 13);
     }
 
     private static void ticks() {
-        EggSpoons x = with(10, 0, 4, 0, 0, 9, 0);
+        EggSpoons x = Given.runners(10, 0, 4, 0, 0, 9, 0);
         x.speed(1, 5);
         due("7: ticks(0)", BAD, x.ticks(0));
         due("7: ticks(61)", BAD, x.ticks(61));
@@ -272,13 +256,13 @@ public final class PromiseTest {
             x.ticks(60);
         }
         due("7: 99 drops at most", 99, x.of(1, 5));
-        EggSpoons exact = with(12, 0, 4, 0);
+        EggSpoons exact = Given.runners(12, 0, 4, 0);
         due("7: at L one is home", 1, exact.ticks(3));
         due("7: at which tick", 3, exact.of(0, 7));
     }
 
     private static void lastTick() {
-        EggSpoons x = with(60, 0, 1, 0);
+        EggSpoons x = Given.runners(60, 0, 1, 0);
         for (int k = 0; k < 166; k++) {
             x.ticks(60);
         }
@@ -307,7 +291,7 @@ public final class PromiseTest {
     }
 
     private static void speed() {
-        EggSpoons x = with(10, 0, 9, 0, 0, 9, 0);
+        EggSpoons x = Given.runners(10, 0, 9, 0, 0, 9, 0);
         due("8: nobody", BAD, x.speed(2, 0));
         due("8: nobody", BAD, x.speed(-1, 0));
         due("8: -1", BAD, x.speed(0, -1));
@@ -324,7 +308,7 @@ public final class PromiseTest {
     }
 
     private static void start() {
-        EggSpoons x = with(40, 0, 9, 0, 0, 1, 0);
+        EggSpoons x = Given.runners(40, 0, 9, 0, 0, 1, 0);
         due("9: nobody", BAD, x.start(2, 1));
         due("9: 0", BAD, x.start(0, 0));
         due("9: 31", BAD, x.start(0, 31));
@@ -339,7 +323,7 @@ public final class PromiseTest {
     }
 
     private static void undo() {
-        EggSpoons x = with(10, 0, 9, 0, 0, 9, 0);
+        EggSpoons x = Given.runners(10, 0, 9, 0, 0, 9, 0);
         due("10: none", NO, x.undo());
         x.speed(1, 5);
         x.start(0, 1);
@@ -357,7 +341,7 @@ public final class PromiseTest {
         due("10: speed", 0, x.undo());
         due("10: speed", 4, x.of(1, 3));
         due("10: none left", NO, x.undo());
-        EggSpoons dropped = with(60, 0, 9, 0);
+        EggSpoons dropped = Given.runners(60, 0, 9, 0);
         dropped.speed(0, 9);
         dropped.ticks(1);
         dropped.ticks(3);
@@ -384,7 +368,7 @@ public final class PromiseTest {
     }
 
     private static void of() {
-        EggSpoons x = with(20, 3, 9, 5);
+        EggSpoons x = Given.runners(20, 3, 9, 5);
         x.speed(0, 5);
         due("11: -1", BAD, x.of(0, -1));
         due("11: 10", BAD, x.of(0, 10));
@@ -395,7 +379,7 @@ public final class PromiseTest {
         facts("11: waiting", x, 0, 3, 9, 5, 5, 0, 1, 2, NONE, 6, 5);
         x.ticks(2);
         facts("11: spurt, china", x, 0, 3, 9, 5, 5, 0, 1, 0, NONE, 9, 7);
-        EggSpoons home = with(10, 0, 4, 2);
+        EggSpoons home = Given.runners(10, 0, 4, 2);
         home.start(0, 9);
         home.speed(0, 3);
         home.ticks(1);
@@ -404,7 +388,7 @@ public final class PromiseTest {
 
     /** FAST of a kind in ticks 1 to n, the first being the next one. */
     private static void fast(int kind, int legs, int speed, int... want) {
-        EggSpoons x = with(60, kind, legs, 0);
+        EggSpoons x = Given.runners(60, kind, legs, 0);
         if (speed != 4) {
             x.speed(0, speed);
         }
@@ -432,7 +416,7 @@ public final class PromiseTest {
     }
 
     private static void may(int egg, int... want) {
-        EggSpoons x = with(60, 0, 1, egg);
+        EggSpoons x = Given.runners(60, 0, 1, egg);
         for (int t = 1; t <= want.length; t++) {
             due("MAY of " + egg + " tick " + t, want[t - 1], x.of(0, 9));
             x.ticks(1);
@@ -449,7 +433,7 @@ public final class PromiseTest {
     }
 
     private static void where() {
-        EggSpoons x = with(20, 0, 3, 0, 0, 9, 0);
+        EggSpoons x = Given.runners(20, 0, 3, 0, 0, 9, 0);
         x.speed(1, 9);
         x.ticks(1);
         long before = x.digest();
@@ -465,7 +449,7 @@ public final class PromiseTest {
     }
 
     private static void home() {
-        EggSpoons x = with(60, 0, 1, 0, 0, 1, 0, 0, 9, 0);
+        EggSpoons x = Given.runners(60, 0, 1, 0, 0, 1, 0, 0, 9, 0);
         x.speed(1, 0);
         due("13: at 60", 60, x.home(0));
         due("13: never", NONE, x.home(1));
@@ -475,7 +459,7 @@ public final class PromiseTest {
         x.ticks(15);
         due("13: is", 0, x.home(2));
         due("13: sooner", 45, x.home(0));
-        EggSpoons slow = with(60, 2, 2, 0);
+        EggSpoons slow = Given.runners(60, 2, 2, 0);
         due("13: not within 60", NONE, slow.home(0));
         due("13: nothing is refused but two", 2, x.status(0));
     }
@@ -503,7 +487,7 @@ public final class PromiseTest {
     }
 
     private static void order() {
-        EggSpoons x = with(20, 0, 1, 0, 0, 4, 0, 0, 4, 0, 0, 2, 0, 0, 4, 0, 0, 1, 0);
+        EggSpoons x = Given.runners(20, 0, 1, 0, 0, 4, 0, 0, 4, 0, 0, 2, 0, 0, 4, 0, 0, 1, 0);
         x.speed(0, 0);
         x.start(4, 4);
         due("15: below 0", BAD, x.order(-1));
@@ -532,7 +516,7 @@ public final class PromiseTest {
     }
 
     private static void best() {
-        EggSpoons x = with(20, 0, 9, 0, 0, 3, 0, 2, 1, 4);
+        EggSpoons x = Given.runners(20, 0, 9, 0, 0, 3, 0, 2, 1, 4);
         due("16: speed", 4, x.best(0, 0));
         due("16: ticks", 5, x.best(0, 1));
         due("16: least of like ones", 3, x.best(1, 0));
@@ -550,13 +534,13 @@ public final class PromiseTest {
         x.ticks(5);
         due("16: home", NONE, x.best(0, 0));
         due("16: home", NONE, x.best(0, 1));
-        EggSpoons last = with(60, 0, 1, 0);
+        EggSpoons last = Given.runners(60, 0, 1, 0);
         due("16: at 60", 60, last.best(0, 1));
         due("16: at 60", 1, last.best(0, 0));
     }
 
     private static void turn() {
-        EggSpoons x = with(40, 0, 9, 3);
+        EggSpoons x = Given.runners(40, 0, 9, 3);
         due("17: goose's, quick at first", 0, x.turn(0, 5, 0));
         due("17: home", 8, x.turn(0, 5, 1));
         x.speed(0, 8);
@@ -569,14 +553,14 @@ public final class PromiseTest {
         due("17: what", BAD, x.turn(0, 0, 2));
         due("17: what", BAD, x.turn(0, 0, -1));
         due("17: nobody", BAD, x.turn(1, 0, 0));
-        EggSpoons slow = with(31, 0, 1, 0);
+        EggSpoons slow = Given.runners(31, 0, 1, 0);
         due("17: not behind 31", NONE, slow.turn(0, 0, 0));
         due("17: to the same", 0, slow.turn(0, 4, 0));
         due("17: to the same", 31, slow.turn(0, 4, 1));
-        EggSpoons thirty = with(30, 0, 1, 0);
+        EggSpoons thirty = Given.runners(30, 0, 1, 0);
         due("17: behind 30, home", 30, thirty.turn(0, 0, 0));
         due("17: behind 30, home", 30, thirty.turn(0, 0, 1));
-        EggSpoons sixty = with(60, 0, 1, 0);
+        EggSpoons sixty = Given.runners(60, 0, 1, 0);
         due("17: at 60", 60, sixty.turn(0, 1, 1));
         sixty.speed(0, 0);
         due("17: at 60", 0, sixty.turn(0, 1, 0));
@@ -587,7 +571,7 @@ public final class PromiseTest {
     }
 
     private static void beats() {
-        EggSpoons x = with(20, 0, 2, 0, 0, 4, 0, 0, 9, 0);
+        EggSpoons x = Given.runners(20, 0, 2, 0, 0, 4, 0, 0, 9, 0);
         x.speed(2, 9);
         due("18: ahead as it is", 0, x.beats(1, 0));
         due("18: home behind 4 by 12", 12, x.beats(0, 1));
@@ -601,33 +585,33 @@ public final class PromiseTest {
         x.ticks(1);
         due("18: the other is home", NONE, x.beats(0, 1));
         due("18: home oneself", NONE, x.beats(1, 0));
-        EggSpoons even = with(20, 0, 4, 0, 0, 4, 0);
+        EggSpoons even = Given.runners(20, 0, 4, 0, 0, 4, 0);
         due("18: a like one is not beaten by 0", 4, even.beats(0, 1));
-        EggSpoons far = with(60, 0, 1, 0, 0, 4, 0);
+        EggSpoons far = Given.runners(60, 0, 1, 0, 0, 4, 0);
         far.start(1, 3);
         due("18: 30 is too little", NONE, far.beats(0, 1));
-        EggSpoons both = with(60, 0, 9, 0, 0, 9, 0);
+        EggSpoons both = Given.runners(60, 0, 9, 0, 0, 9, 0);
         both.speed(0, 9);
         both.speed(1, 9);
         due("18: neither is home within 60", NONE, both.beats(0, 1));
-        EggSpoons tired = with(60, 2, 3, 0, 0, 1, 0);
+        EggSpoons tired = Given.runners(60, 2, 3, 0, 0, 1, 0);
         tired.speed(1, 0);
         due("18: 57 paces is all that one gets", 3, tired.beats(0, 1));
-        EggSpoons most = with(31, 0, 1, 0, 0, 4, 0);
+        EggSpoons most = Given.runners(31, 0, 1, 0, 0, 4, 0);
         most.speed(1, 0);
         most.start(1, 30);
         most.speed(1, 1);
         due("18: not to L", NONE, most.beats(0, 1));
         most.undo();
         due("18: the other stands", 0, most.beats(0, 1));
-        EggSpoons thirty = with(45, 0, 1, 0, 0, 2, 0);
+        EggSpoons thirty = Given.runners(45, 0, 1, 0, 0, 2, 0);
         thirty.speed(1, 3);
         thirty.start(1, 14);
         due("18: 30 is enough", 30, thirty.beats(0, 1));
     }
 
     private static void close() {
-        EggSpoons x = with(20, 0, 4, 0, 0, 2, 0, 0, 2, 0);
+        EggSpoons x = Given.runners(20, 0, 4, 0, 0, 2, 0, 0, 2, 0);
         x.start(1, 7);
         due("19: when", 3, x.close(0, 1, 0));
         due("19: how far", 1, x.close(0, 1, 1));
@@ -642,18 +626,18 @@ public final class PromiseTest {
         due("19: what", BAD, x.close(0, 1, -1));
         due("19: nobody", BAD, x.close(0, 3, 0));
         due("19: nobody", BAD, x.close(3, 0, 0));
-        EggSpoons sly = with(60, 5, 1, 0, 0, 2, 0);
+        EggSpoons sly = Given.runners(60, 5, 1, 0, 0, 2, 0);
         sly.start(1, 1);
         due("19: odd ticks first", 1, sly.close(0, 1, 0));
         due("19: odd ticks first", 0, sly.close(0, 1, 1));
-        EggSpoons late = with(60, 0, 1, 0, 0, 4, 0);
+        EggSpoons late = Given.runners(60, 0, 1, 0, 0, 4, 0);
         late.start(1, 4);
         due("19: at 60", 60, late.close(0, 1, 0));
         due("19: at 60", 0, late.close(0, 1, 1));
     }
 
     private static void seen() {
-        EggSpoons x = with(20, 0, 5, 0);
+        EggSpoons x = Given.runners(20, 0, 5, 0);
         due("20: nobody", BAD, x.seen(1, 0, 0, 0));
         due("20: t", BAD, x.seen(0, -1, 0, 0));
         due("20: t", BAD, x.seen(0, 100, 0, 0));
@@ -670,7 +654,7 @@ public final class PromiseTest {
     }
 
     private static void strong() {
-        EggSpoons x = with(20, 0, 5, 0, 2, 5, 0);
+        EggSpoons x = Given.runners(20, 0, 5, 0, 2, 5, 0);
         due("21: all", 9, x.strong(0, 0));
         due("21: least", 1, x.strong(0, 1));
         due("21: greatest", 9, x.strong(0, 2));
@@ -695,7 +679,7 @@ public final class PromiseTest {
     }
 
     private static void tell() {
-        EggSpoons x = with(20, 0, 5, 0, 4, 5, 0, 2, 5, 0, 0, 5, 0);
+        EggSpoons x = Given.runners(20, 0, 5, 0, 4, 5, 0, 2, 5, 0, 0, 5, 0);
         due("22: all", 9, x.tell(0));
         due("22: shy by two", 9, x.tell(1));
         x.seen(0, 0, 6, 6);
@@ -723,7 +707,7 @@ public final class PromiseTest {
     }
 
     private static void note() {
-        EggSpoons x = with(20, 0, 5, 0);
+        EggSpoons x = Given.runners(20, 0, 5, 0);
         int[][] wrong = {{1, 1, 0, 0, 0}, {-1, 1, 0, 0, 0}, {0, 0, 0, 0, 0}, {0, 10, 0, 0, 0}, {0, 1, -1, 0, 0},
             {0, 1, 100, 0, 0}, {0, 1, 0, -1, 0}, {0, 1, 0, 10, 0}, {0, 1, 0, 0, -1}, {0, 1, 0, 0, 16}};
         for (int[] w : wrong) {
@@ -738,7 +722,7 @@ public final class PromiseTest {
     }
 
     private static void mark() {
-        EggSpoons x = with(20, 0, 5, 0);
+        EggSpoons x = Given.runners(20, 0, 5, 0);
         int[][] wrong = {{1, 0, 0}, {-1, 0, 0}, {0, -1, 0}, {0, 100, 0}, {0, 0, -1}, {0, 0, 16}};
         for (int[] w : wrong) {
             due("24: a wrong mark", BAD, x.mark(w[0], w[1], w[2]));
@@ -752,7 +736,7 @@ public final class PromiseTest {
     }
 
     private static void forget() {
-        EggSpoons x = with(20, 0, 5, 0);
+        EggSpoons x = Given.runners(20, 0, 5, 0);
         x.seen(0, 0, 0, 0);
         x.note(0, 1, 0, 0, 0);
         x.note(0, 1, 0, 0, 0);
@@ -771,7 +755,7 @@ public final class PromiseTest {
     }
 
     private static void is() {
-        EggSpoons x = with(20, 0, 5, 0, 0, 5, 0);
+        EggSpoons x = Given.runners(20, 0, 5, 0, 0, 5, 0);
         due("26: all", 63, x.is(0));
         x.note(0, 3, 14, 5, 4);
         due("26: long or sly", 1 << 1, x.is(0));
@@ -795,7 +779,7 @@ public final class PromiseTest {
     }
 
     private static void look() {
-        EggSpoons x = with(20, 0, 5, 0, 0, 1, 0);
+        EggSpoons x = Given.runners(20, 0, 5, 0, 0, 1, 0);
         due("27: all, legs 5", 15, x.look(0));
         x.note(0, 5, 9, 4, 4);
         due("27: plain, long, tired", 105, x.look(0));
@@ -810,7 +794,7 @@ public final class PromiseTest {
     }
 
     private static void kinds() {
-        EggSpoons x = with(20, 0, 5, 0, 0, 5, 0);
+        EggSpoons x = Given.runners(20, 0, 5, 0, 0, 5, 0);
         due("28: all", 63, x.kinds(0));
         x.mark(0, 2, 8);
         due("28: goose's", 8, x.kinds(0));
@@ -832,7 +816,7 @@ public final class PromiseTest {
     }
 
     private static void ask() {
-        EggSpoons x = with(20, 0, 5, 0, 0, 5, 0);
+        EggSpoons x = Given.runners(20, 0, 5, 0, 0, 5, 0);
         due("29: all", 0, x.ask(0));
         x.mark(0, 4, 4);
         due("29: hen's, duck's", 1, x.ask(0));
@@ -846,7 +830,7 @@ public final class PromiseTest {
     }
 
     private static void pair() {
-        EggSpoons x = with(60, 0, 1, 0, 0, 1, 0);
+        EggSpoons x = Given.runners(60, 0, 1, 0, 0, 1, 0);
         due("30: how many", 81, x.pair(0, 1, NONE));
         due("30: first", 11, x.pair(0, 1, 0));
         due("30: second", 12, x.pair(0, 1, 1));
@@ -860,13 +844,13 @@ public final class PromiseTest {
         due("30: nobody", -10, x.pair(0, 2, NONE));
         due("30: nobody", -10, x.pair(-1, 0, NONE));
         due("30: counted as BAD", 4, x.status(0));
-        EggSpoons quick = with(60, 0, 9, 0, 0, 9, 0);
+        EggSpoons quick = Given.runners(60, 0, 9, 0, 0, 9, 0);
         due("30: one", 1, quick.pair(0, 1, NONE));
         due("30: 4 and 4", 44, quick.pair(0, 1, 0));
-        EggSpoons home = with(10, 0, 4, 0, 0, 4, 0);
+        EggSpoons home = Given.runners(10, 0, 4, 0, 0, 4, 0);
         home.ticks(3);
         due("30: both home", 100, home.pair(0, 1, NONE));
-        EggSpoons ahead = with(60, 0, 4, 0, 0, 2, 0);
+        EggSpoons ahead = Given.runners(60, 0, 4, 0, 0, 2, 0);
         ahead.speed(0, 9);
         due("30: by neither's told speed", 48, ahead.pair(0, 1, NONE));
         due("30: legs", 42, ahead.pair(0, 1, 0));
@@ -880,7 +864,7 @@ public final class PromiseTest {
     }
 
     private static void stumble() {
-        EggSpoons x = with(20, 0, 4, 0, 0, 9, 0);
+        EggSpoons x = Given.runners(20, 0, 4, 0, 0, 9, 0);
         x.speed(1, 9);
         long before = x.count(9);
         stumbled(x, new int[] {0, 0, 0, 5}, 1, 1);
@@ -904,13 +888,13 @@ public final class PromiseTest {
         due("31: c", BAD, x.stumble(0, 0, 0, 11));
         due("31: nobody", BAD, x.stumble(2, 0, 0, 0));
         due("31: refused ones leave it", 0, x.part(0));
-        EggSpoons waiting = with(20, 0, 9, 0);
+        EggSpoons waiting = Given.runners(20, 0, 9, 0);
         waiting.speed(0, 9);
         waiting.ticks(1);
         waiting.speed(0, 4);
         stumbled(waiting, new int[] {0, 1, 2, 0}, 0, 1);
         stumbled(waiting, new int[] {0, 4, 3, 4}, 3, 5);
-        EggSpoons kinds = with(60, 3, 3, 0, 0, 4, 2);
+        EggSpoons kinds = Given.runners(60, 3, 3, 0, 0, 4, 2);
         stumbled(kinds, new int[] {0, 9, 4, 1}, 729, 1000);
         stumbled(kinds, new int[] {0, 10, 6, 0}, 0, 1);
         stumbled(kinds, new int[] {1, 4, 3, 0}, 0, 1);
@@ -918,14 +902,14 @@ public final class PromiseTest {
         kinds.ticks(1);
         stumbled(kinds, new int[] {0, 9, 2, 1}, 81, 100);
         stumbled(kinds, new int[] {0, 9, 3, 1}, 81, 100);
-        EggSpoons home = with(10, 0, 4, 0);
+        EggSpoons home = Given.runners(10, 0, 4, 0);
         home.ticks(3);
         stumbled(home, new int[] {0, 12, 6, 9}, 1, 1);
         stumbled(home, new int[] {0, 13, 6, 0}, 0, 1);
     }
 
     private static void races() {
-        EggSpoons x = with(10, 0, 9, 0, 0, 9, 0);
+        EggSpoons x = Given.runners(10, 0, 9, 0, 0, 9, 0);
         due("32: seed", BAD, x.races(-1, 1));
         due("32: seed", BAD, x.races(1000000, 1));
         due("32: n", BAD, x.races(0, -1));
@@ -937,7 +921,7 @@ public final class PromiseTest {
         due("32: nothing is changed", before, x.digest());
         x.ticks(3);
         due("32: who is home counts", 2, x.races(0, 0));
-        EggSpoons all = with(30, 0, 9, 0, 1, 8, 1, 2, 7, 2, 3, 6, 3, 4, 5, 4, 5, 4, 5);
+        EggSpoons all = Given.runners(30, 0, 9, 0, 1, 8, 1, 2, 7, 2, 3, 6, 3, 4, 5, 4, 5, 4, 5);
         int[] ns = {0, 5, 8, 10, 12, 15, 20, 30, 60};
         int[] seeds = {0, 1, 7, 4242, 999999};
         int[][] homes = {{0, 0, 0, 0, 0, 1, 2, 4, 5}, {0, 0, 0, 0, 0, 1, 3, 5, 6}, {0, 0, 1, 1, 1, 2, 4, 4, 6},
@@ -956,7 +940,7 @@ public final class PromiseTest {
     }
 
     private static void part() {
-        EggSpoons x = with(20, 0, 4, 0);
+        EggSpoons x = Given.runners(20, 0, 4, 0);
         x.stumble(0, 4, 1, 2);
         due("33: above", 4, x.part(0));
         due("33: below", 5, x.part(1));
@@ -966,7 +950,7 @@ public final class PromiseTest {
     }
 
     private static void imageAndFrom() {
-        EggSpoons x = with(20, 0, 4, 0);
+        EggSpoons x = Given.runners(20, 0, 4, 0);
         x.ticks(2);
         x.speed(0, 3);
         x.seen(0, 1, 2, 3);
@@ -1033,7 +1017,7 @@ public final class PromiseTest {
     }
 
     private static void count() {
-        EggSpoons x = with(20, 0, 9, 0, 0, 4, 0, 0, 9, 2);
+        EggSpoons x = Given.runners(20, 0, 9, 0, 0, 4, 0, 0, 9, 2);
         x.speed(0, 9);
         x.start(1, 12);
         x.seen(0, 0, 0, 0);
@@ -1082,7 +1066,7 @@ public final class PromiseTest {
         long before = x.digest();
         x.undo();
         check.holds("38: the tick", before != x.digest());
-        EggSpoons half = with(20, 0, 4, 0);
+        EggSpoons half = Given.runners(20, 0, 4, 0);
         half.stumble(0, 4, 1, 5);
         due("38: the fraction", mixed(1, 0, 20, 0, 0, 0, 0, 0, 0, 0, 0, 0, 4, 0, 4, 0, 0, 0, -1, 1, 2), half.digest());
     }
