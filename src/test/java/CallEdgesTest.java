@@ -17,6 +17,7 @@ public final class CallEdgesTest {
         where();
         home();
         first();
+        firstOfSix();
         order();
         best();
         bestWithinSixty();
@@ -206,6 +207,21 @@ public final class CallEdgesTest {
         due("nobody runs", NONE, new EggSpoons().first());
     }
 
+    private static void firstOfSix() {
+        EggSpoons six = Given.runners(20, 0, 1, 0, 0, 1, 0, 0, 1, 0, 0, 1, 0, 0, 2, 0, 0, 2, 0);
+        due("one of six", 4, six.first());
+        six.start(5, 2);
+        due("the last, by one tick", 5, six.first());
+        due("the last, by one tick", 5, six.order(0));
+        due("the sixth", 3, six.order(5));
+        six.race(20);
+        due("they are gone", NONE, six.first());
+        six.one(0, 1, 0);
+        due("the new one alone", 0, six.first());
+        six.speed(0, 0);
+        due("who is gone is not first", NONE, six.first());
+    }
+
     private static void order() {
         EggSpoons x = Given.runners(60, 0, 1, 0);
         x.speed(0, 0);
@@ -255,6 +271,9 @@ public final class CallEdgesTest {
         nine.start(0, 5);
         due("9 is looked at, too", 9, nine.best(0, 0));
         due("9 is looked at, too", 1, nine.best(0, 1));
+        EggSpoons sly = Given.runners(10, 5, 9, 4);
+        due("0 is looked at, too: 2 in each odd tick", 0, sly.best(0, 0));
+        due("0 is looked at, too: 2 in each odd tick", 9, sly.best(0, 1));
     }
 
     /** By 5 or more this one runs 2 in two ticks of five, and drops the egg in each fifth: 52 in tick 62. */
@@ -282,6 +301,9 @@ public final class CallEdgesTest {
         due("home behind 31", 31, more.turn(0, 1, 1));
         due("never", NONE, more.turn(0, 0, 0));
         due("to the one that it is", NONE, more.turn(0, 0, 1));
+        EggSpoons spurt = Given.runners(17, 3, 9, 1);
+        due("12 by 4, then 5 by 2 in tick 4", 3, spurt.turn(0, 2, 0));
+        due("home in tick 4", 4, spurt.turn(0, 2, 1));
         EggSpoons like = Given.runners(20, 0, 4, 0);
         due("of like ones the least", 0, like.turn(0, 9, 0));
         like.ticks(5);
@@ -340,6 +362,12 @@ public final class CallEdgesTest {
         due("who stands is never home", NONE, stands.beats(0, 1));
         stands.speed(1, 0);
         due("both stand", NONE, stands.beats(0, 1));
+        EggSpoons near = Given.runners(10, 0, 1, 0, 0, 1, 0);
+        near.speed(0, 0);
+        near.speed(1, 0);
+        due("not to L, whence one would be home by standing", NONE, near.beats(0, 1));
+        near.start(0, 9);
+        due("from just ahead of L neither", NONE, near.beats(0, 1));
     }
 
     private static void close() {
@@ -357,6 +385,10 @@ public final class CallEdgesTest {
         late.start(1, 4);
         due("61 is not looked at", 60, late.close(0, 1, 0));
         due("one apart", 1, late.close(0, 1, 1));
+        EggSpoons sly = Given.runners(60, 0, 2, 0, 5, 1, 0);
+        sly.start(0, 1);
+        due("the sly runs 3 in tick 1", 1, sly.close(0, 1, 0));
+        due("the sly runs 3 in tick 1", 1, sly.close(1, 0, 0));
         EggSpoons homes = Given.runners(10, 0, 4, 0, 0, 3, 0);
         homes.ticks(60);
         due("both home", 0, homes.close(0, 1, 0));
@@ -540,6 +572,9 @@ public final class CallEdgesTest {
         due("at 10 behind 5 by 2 or more", 64, home.pair(0, 1, NONE));
         due("the first", 22, home.pair(0, 1, 0));
         due("nothing is changed", 4, home.of(0, 3));
+        EggSpoons sly = Given.runners(60, 5, 9, 4, 5, 9, 4);
+        due("0 is looked at, too: alone it keeps a bad egg in odd ticks", 1, sly.pair(0, 1, NONE));
+        due("0 and 0", 0, sly.pair(0, 1, 0));
     }
 
     private static void stumbled(String told, EggSpoons x, int[] call, long above, long below) {
@@ -579,6 +614,9 @@ public final class CallEdgesTest {
         soon.start(0, 9);
         stumbled("home in one tick, stays there", soon, new int[] {0, 13, 6, 5}, 3, 4);
         stumbled("no farther", soon, new int[] {0, 14, 6, 0}, 0, 1);
+        EggSpoons exact = Given.runners(12, 0, 4, 0);
+        stumbled("at L one is home", exact, new int[] {0, 12, 6, 0}, 1, 1);
+        stumbled("and stays there", exact, new int[] {0, 13, 6, 0}, 0, 1);
     }
 
     private static void fractionInLowestTerms() {

@@ -935,6 +935,9 @@ public final class PromiseTest {
         due("32: races(202, 20)", 4, all.races(202, 20));
         due("32: races(711, 20)", 3, all.races(711, 20));
         due("32: races(1260, 20)", 2, all.races(1260, 20));
+        // Seeds by which an X falls just ahead of one.
+        due("32: races(76, 30)", 4, all.races(76, 30));
+        due("32: races(1120, 20)", 2, all.races(1120, 20));
         EggSpoons nobody = new EggSpoons();
         due("32: nobody", 0, nobody.races(5, 60));
     }

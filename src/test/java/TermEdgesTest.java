@@ -27,6 +27,7 @@ public final class TermEdgesTest {
         undoOfEach();
         imagesKeep();
         imagesAreKeptFrom();
+        imagesKeepWhatRowsHold();
         check.finish();
     }
 
@@ -413,5 +414,42 @@ public final class TermEdgesTest {
         due("L", 50, x.count(2));
         due("no image keeps an image", 1, x.from(1));
         due("images stay", 1, x.from(0));
+    }
+
+    /** Behind an image all rows are filled with others, so that no row is right by chance. */
+    private static void imagesKeepWhatRowsHold() {
+        EggSpoons x = Given.runners(40, PLAIN, 9, HENS, TIRED, 2, CHINA);
+        x.speed(0, 5);
+        x.ticks(1);
+        x.start(1, 7);
+        for (int k = 0; k < 4; k++) {
+            x.seen(0, k, 2, 3);
+            x.note(1, 4, 5, k, 7);
+            x.mark(0, 8, k);
+        }
+        long kept = x.digest();
+        x.image(0);
+        x.race(50);
+        for (int k = 0; k < 6; k++) {
+            x.one(SLY, 3, DUCKS);
+            x.seen(0, 90, 9, 15);
+            x.note(0, 9, 90, 9, 15);
+            x.mark(0, 90, 15);
+        }
+        for (int k = 0; k < 8; k++) {
+            x.ticks(1);
+        }
+        due("from", 1, x.from(0));
+        due("all is as it was", kept, x.digest());
+        due("drops", 1, x.of(0, 5));
+        due("waits", 2, x.of(0, 6));
+        due("undo start", 1, x.undo());
+        due("place", 2, x.of(1, 4));
+        due("undo ticks", 0, x.undo());
+        due("place", 0, x.of(1, 4));
+        due("drops", 0, x.of(0, 5));
+        due("undo speed", 0, x.undo());
+        due("speed", 4, x.of(0, 3));
+        due("no more", NO, x.undo());
     }
 }

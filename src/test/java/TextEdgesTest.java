@@ -27,6 +27,8 @@ public final class TextEdgesTest {
         speedIsNotRefused();
         theFirstFaultCounts();
         manyItems();
+        fullOfOneSort();
+        oneBehindTheOther();
         takesThePlace();
         check.finish();
     }
@@ -128,6 +130,11 @@ public final class TextEdgesTest {
         fault("race 20;starts 0 1;", 8);
         fault("race 20;g 1;", 8);
         fault("race 20;gog 1;", 8);
+        fault("face 20;", 0);
+        fault("race 20;ine 0 1 0;", 8);
+        fault("race 20;apeed 0 1;", 8);
+        fault("race 20;ztart 0 1;", 8);
+        fault("race 20;no 1;", 8);
         fault("race 20;a;", 8);
         fault("race 20;z;", 8);
         fault("race 20;g o 1;", 8);
@@ -301,6 +308,38 @@ public final class TextEdgesTest {
         due("28 times 99", 2772, x.count(3));
         due("150 bytes", 150, x.count(10));
         fault("race10;" + "go99;".repeat(28) + "go9", 150);
+    }
+
+    private static void fullOfOneSort() {
+        fault("a".repeat(150), 0);
+        fault("1".repeat(150), 0);
+        fault(";".repeat(150), 0);
+        fault("race 20;" + "z".repeat(142), 8);
+        fault("race 20;go " + "9".repeat(139), 11);
+        fault("race 20;" + " ".repeat(140) + "go", 150);
+        fault("race 20;" + " ".repeat(138) + "go 9", 150);
+    }
+
+    /** What one reading or one text leaves behind does not come into the next. */
+    private static void oneBehindTheOther() {
+        EggSpoons x = new EggSpoons();
+        Given.text(x, "racexyz");
+        due("a word that is none", -10, x.read());
+        Given.text(x, "race");
+        due("the cleared text is gone", -14, x.read());
+        Given.text(x, "race 20;");
+        due("behind a fault", 1, x.read());
+        Given.text(x, "race 30;one 0 4 0;go 1;");
+        due("behind a race", 3, x.read());
+        long before = x.digest();
+        x.races(3, 60);
+        due("races behind a reading change nothing", before, x.digest());
+        Given.text(x, "race 40;one 5 5 5;one 5 5 5;go 9;#");
+        due("a fault at the end", -10 - 33, x.read());
+        due("all stays", 30, x.count(2));
+        due("all stays", 1, x.count(0));
+        due("all stays", 1, x.count(3));
+        due("all stays", 4, x.of(0, 4));
     }
 
     private static void takesThePlace() {
